@@ -84,9 +84,10 @@ public final class Promise4ArcTest {
         CHECKS.due("R2 25000001", beyond.arc(5000, 2, 0, 0, true), -1);
         TickWalks far = Checks.at(30000, 30000, 0);
         CHECKS.due("R2 9800000000", far.arc(30000, 30000, -40000, -40000, true), -1);
-        // 65536 squared is 0 in an int: 65536 65536 from the centre must not be taken for near.
-        TickWalks wrapped = Checks.at(30000, 30000, 0);
-        CHECKS.due("R2 2 * 65536 * 65536", wrapped.arc(30000, 30000, -35536, -35536, true), -1);
+        // 65536 squared is 0 in an int: R2 must not be taken for 25, with one tick inwards to the end.
+        TickWalks wrapped = Checks.at(30000, 5, 0);
+        CHECKS.due("R2 65536 * 65536 + 25", wrapped.arc(29999, 5, -35536, 0, true), -1);
+        CHECKS.stands("R2 65536 * 65536 + 25", wrapped, 30000, 5, 0);
     }
 
     private static void wrongNumbers() {
