@@ -147,12 +147,10 @@ public final class TickWalks {
             strays = NOT_COUNTED;
         }
 
-        @Override
         int length() {
             return length;
         }
 
-        @Override
         int placeBehind(int k, int axis) {
             if (length == 0) {
                 return from[axis];
@@ -162,13 +160,11 @@ public final class TickWalks {
             return from[axis] + (int) Math.floorDiv(2L * by[axis] * k + n, 2L * n);
         }
 
-        @Override
         int greatestOff() {
             return 0;
         }
 
         // Counted when first asked for, as most lines are never asked.
-        @Override
         int strayTicks() {
             if (strays == NOT_COUNTED) {
                 strays = countStrays();
@@ -251,12 +247,10 @@ public final class TickWalks {
             return false;
         }
 
-        @Override
         int length() {
             return length;
         }
 
-        @Override
         int placeBehind(int k, int axis) {
             if (axis == Z) {
                 return height;
@@ -265,12 +259,10 @@ public final class TickWalks {
             return axis == X ? footX : footY;
         }
 
-        @Override
         int greatestOff() {
             return off;
         }
 
-        @Override
         int strayTicks() {
             return strays;
         }
