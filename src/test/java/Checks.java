@@ -13,6 +13,13 @@ final class Checks {
         due(call, got ? 1 : 0, want ? 1 : 0);
     }
 
+    void due(String call, String got, String want) {
+        if (!got.equals(want)) {
+            wrong++;
+            System.out.println(call + " answered " + got + ", due is " + want);
+        }
+    }
+
     void stands(String when, TickWalks walks, int x, int y, int z) {
         due(when + ": at(0)", walks.at(0), x);
         due(when + ": at(1)", walks.at(1), y);

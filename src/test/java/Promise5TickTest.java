@@ -1,3 +1,5 @@
+import java.util.List;
+
 public final class Promise5TickTest {
     private static final int[] OTHER_AXES = {-1, 3, 4, Integer.MAX_VALUE, Integer.MIN_VALUE};
     private static final Checks CHECKS = new Checks();
@@ -58,19 +60,21 @@ public final class Promise5TickTest {
     }
 
     private static void ofALongArcInAnyOrder() {
-        TickWalks walks = Checks.at(-4000, 3000, -9);
         PlainModel model = new PlainModel();
         model.place(-4000, 3000, -9);
-        CHECKS.due("long arc", walks.arc(-4000, 3000, 0, 0, false), model.arc(-4000, 3000, 0, 0, false));
-        int last = model.ticks();
-        CHECKS.due("long arc: ticks()", walks.ticks(), last);
-        for (int i = 0; i <= last; i += 7) {
-            int k = i % 2 == 0 ? i : last - i;
-            CHECKS.tickIs("long arc", walks, k, model.tick(k, 0), model.tick(k, 1), -9);
+        int last = model.arc(-4000, 3000, 0, 0, false);
+        List<int[]> places = Told.places(() -> Before.arc(-4000, 3000, -9, -4000, 3000, 0, 0, false));
+        CHECKS.due("long arc: places", places.size(), last + 1);
+        for (int k = 0; k < places.size(); k++) {
+            int[] place = places.get(k);
+            CHECKS.due("long arc: x behind tick " + k, place[0], model.tick(k, 0));
+            CHECKS.due("long arc: y behind tick " + k, place[1], model.tick(k, 1));
+            CHECKS.due("long arc: z behind tick " + k, place[2], -9);
         }
-        for (int k = 0; k <= 301; k++) {
+        TickWalks walks = Before.arc(-4000, 3000, -9, -4000, 3000, 0, 0, false);
+        for (int i = 0; i < 120; i++) {
+            int k = i % 2 == 0 ? i * 199 : last - i * 101;
             CHECKS.tickIs("long arc", walks, k, model.tick(k, 0), model.tick(k, 1), -9);
-            CHECKS.tickIs("long arc", walks, last - k, model.tick(last - k, 0), model.tick(last - k, 1), -9);
         }
         zeroElsewhere("long arc", walks);
     }

@@ -1,10 +1,12 @@
+import java.util.List;
+
 public final class Promise8OffTest {
     private static final Checks CHECKS = new Checks();
 
     public static void main(String[] args) {
         ordinary();
         sameAsMeasured(5000, 0, 0, 0, true);
-        sameAsMeasured(-3000, 3999, 1, -1, false);
+        sameAsMeasured(-2999, 3999, 1, -1, false);
         sameAsMeasured(123, -456, 7, 8, true);
         sameAsMeasured(1, 0, 0, 0, true);
         CHECKS.end();
@@ -35,14 +37,15 @@ public final class Promise8OffTest {
     }
 
     private static void sameAsMeasured(int x, int y, int cx, int cy, boolean left) {
-        TickWalks walks = Checks.at(x, y, 0);
-        int ticks = walks.arc(x, y, cx, cy, left);
         long square = square(x - cx, y - cy);
         long greatest = 0;
-        for (int k = 0; k <= ticks; k++) {
-            long here = square(walks.tick(k, 0) - cx, walks.tick(k, 1) - cy);
+        List<int[]> places = Told.places(() -> Before.arc(x, y, 0, x, y, cx, cy, left));
+        CHECKS.due("the circle from " + x + " " + y + " is walked", places.size() > 4, true);
+        for (int[] place : places) {
+            long here = square(place[0] - cx, place[1] - cy);
             greatest = Math.max(greatest, Math.abs(here - square));
         }
+        TickWalks walks = Before.arc(x, y, 0, x, y, cx, cy, left);
         CHECKS.due("off() of the circle from " + x + " " + y, walks.off(), greatest);
     }
 
