@@ -38,7 +38,12 @@ record Before(String name, Supplier<TickWalks> made, String told) {
     /** The call is answered as due, and all that the reads tell is as it was before it. */
     void unchanged(Checks checks, String call, Function<TickWalks, Object> asked, Object answer) {
         TickWalks walks = made.get();
-        checks.due(name + ": " + call, String.valueOf(asked.apply(walks)), String.valueOf(answer));
+        String got = String.valueOf(asked.apply(walks));
+        checks.due(name + ": " + call, got, String.valueOf(answer));
+        if (!got.equals(String.valueOf(answer))) {
+            // A line that should have been refused may have so many ticks that strays() does not come to an end.
+            return;
+        }
         checks.due(name + ", then " + call + ": the reads", Told.all(walks), told);
     }
 }

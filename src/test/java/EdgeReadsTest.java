@@ -62,7 +62,13 @@ public final class EdgeReadsTest {
     private static void afterAGreaterArc() {
         TickWalks walks = Checks.at(0, 20, 0);
         CHECKS.due("arc", walks.arc(0, 20, 0, 0, false), 112);
-        CHECKS.due("arc of one tick", walks.arc(1, 20, 0, 0, false), 1);
-        numbers("arc of one tick", walks, 1, 1);
+        for (int times = 0; times < 3; times++) {
+            CHECKS.due("arc of one tick", walks.arc(1, 20, 0, 0, false), 1);
+            numbers("arc of one tick", walks, 1, 1);
+            CHECKS.due("back", walks.arc(0, 20, 0, 0, true), 1);
+            numbers("back", walks, 1, 1);
+            CHECKS.due("refused arc", neverThere(walks), -1);
+            numbers("refused arc", walks, 1, 1);
+        }
     }
 }
