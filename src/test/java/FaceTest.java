@@ -5,7 +5,7 @@ import java.lang.reflect.Modifier;
 import java.util.Set;
 import java.util.TreeSet;
 
-/** The class has the document's face and no other member that is not private. */
+/** Rule 1: the class has the members under 'The public face' and no other that is not private. */
 public final class FaceTest {
     private static final Set<String> FACE = Set.of(
         "public boolean TickWalks.place(int,int,int)",
@@ -17,26 +17,62 @@ public final class FaceTest {
         "public int TickWalks.off()",
         "public int TickWalks.strays()");
 
+    private static final Checks CHECKS = new Checks();
+
     public static void main(String[] args) {
-        Checks checks = new Checks();
+        theClass();
+        methods();
+        CHECKS.due("constructors", constructors(), "[public TickWalks()]");
+        for (Field field : TickWalks.class.getDeclaredFields()) {
+            CHECKS.due(field + " is private", Modifier.isPrivate(field.getModifiers()), true);
+        }
+        classesInside();
+        CHECKS.end();
+    }
+
+    private static void theClass() {
+        CHECKS.due("the class is public and final",
+            Modifier.toString(TickWalks.class.getModifiers()), "public final");
+        CHECKS.due("the class above it", TickWalks.class.getSuperclass().getName(), "java.lang.Object");
+        CHECKS.due("its interfaces", TickWalks.class.getInterfaces().length, 0);
+        CHECKS.due("its type parameters", TickWalks.class.getTypeParameters().length, 0);
+        CHECKS.due("its package", TickWalks.class.getPackageName(), "");
+    }
+
+    private static void methods() {
         Set<String> found = new TreeSet<>();
+        Set<String> publicNames = new TreeSet<>();
         for (Method method : TickWalks.class.getDeclaredMethods()) {
-            if (!Modifier.isPrivate(method.getModifiers()) && !method.isSynthetic()) {
+            if (!Modifier.isPrivate(method.getModifiers())) {
                 found.add(method.toString());
+                publicNames.add(method.getName());
             }
         }
-        checks.due("the methods are those of the document: " + found, found.equals(FACE), true);
-        for (Field field : TickWalks.class.getDeclaredFields()) {
-            checks.due(field + " is private", Modifier.isPrivate(field.getModifiers()), true);
+        CHECKS.due("the methods", found.toString(), new TreeSet<>(FACE).toString());
+        for (Method method : TickWalks.class.getDeclaredMethods()) {
+            if (Modifier.isPrivate(method.getModifiers())) {
+                CHECKS.due(method + " bears the name of a public one", publicNames.contains(method.getName()), false);
+            }
         }
-        Constructor<?>[] constructors = TickWalks.class.getDeclaredConstructors();
-        checks.due("constructors", constructors.length, 1);
-        checks.due("the constructor", constructors[0].toString().equals("public TickWalks()"), true);
-        checks.due("the class is public and final",
-            TickWalks.class.getModifiers(), Modifier.PUBLIC | Modifier.FINAL);
-        for (Class<?> inside : TickWalks.class.getDeclaredClasses()) {
-            checks.due(inside + " is static", Modifier.isStatic(inside.getModifiers()), true);
+    }
+
+    private static String constructors() {
+        Set<String> found = new TreeSet<>();
+        for (Constructor<?> constructor : TickWalks.class.getDeclaredConstructors()) {
+            found.add(constructor.toString());
         }
-        checks.end();
+        return found.toString();
+    }
+
+    private static void classesInside() {
+        Class<?>[] declared = TickWalks.class.getDeclaredClasses();
+        for (Class<?> inside : declared) {
+            int modifiers = inside.getModifiers();
+            CHECKS.due(inside + " is static", Modifier.isStatic(modifiers), true);
+            CHECKS.due(inside + " is private or package-visible",
+                Modifier.isPublic(modifiers) || Modifier.isProtected(modifiers), false);
+        }
+        // A local or anonymous class, or one inside a class inside, would be a nest member that is not declared here.
+        CHECKS.due("the classes of the file", TickWalks.class.getNestMembers().length, declared.length + 1);
     }
 }
